@@ -538,13 +538,23 @@ public final class FormulaKiln {
         }
 
         static int mostParts(char kind) {
-            if (kind == 'n' || kind == 'v' || kind == '?') {
-                return 0;
+            switch (kind) {
+                case 'n':
+                case 'v':
+                case '?':
+                    return 0;
+                case '~':
+                case '!':
+                case '|':
+                    return 1;
+                case 'S':
+                case 'f':
+                case 'g':
+                case 'h':
+                    return 3;
+                default:
+                    return 2;
             }
-            if (kind == '~' || kind == '!' || kind == '|') {
-                return 1;
-            }
-            return kind == 'S' || isApplied(kind) ? 3 : 2;
         }
     }
 
@@ -633,23 +643,23 @@ public final class FormulaKiln {
         }
 
         char kindOf(int node) {
-            return has(node) ? kinds[node] : '?';
+            return node >= 0 && node < count ? kinds[node] : '?';
         }
 
         int valueOf(int node) {
-            return has(node) ? values[node] : 0;
+            return node >= 0 && node < count ? values[node] : 0;
         }
 
         int partsOf(int node) {
-            return has(node) ? partCounts[node] : 0;
+            return node >= 0 && node < count ? partCounts[node] : 0;
         }
 
         int spanOf(int node) {
-            return has(node) ? spans[node] : 1;
+            return node >= 0 && node < count ? spans[node] : 1;
         }
 
         int upOf(int node) {
-            return has(node) ? ups[node] : NONE;
+            return node >= 0 && node < count ? ups[node] : NONE;
         }
 
         int partAt(int node, int index) {
@@ -767,7 +777,7 @@ public final class FormulaKiln {
                 place++;
             } else {
                 place += sign == '?' ? 1 : 0;
-                finishAtom(make('?', 0));
+                finishAtom(make('?', 0, NONE, NONE));
             }
             return true;
         }
@@ -778,17 +788,17 @@ public final class FormulaKiln {
                 number = 10 * number + (here() - '0');
                 place++;
             }
-            finishAtom(make('n', number));
+            finishAtom(make('n', number, NONE, NONE));
         }
 
         private void readLetter() {
             char letter = here();
             place++;
             if (Kinds.isApplied(letter) && here() == '(') {
-                push(letter, make(letter, 0));
+                push(letter, make(letter, 0, NONE, NONE));
                 place++;
             } else {
-                finishAtom(make('v', letter));
+                finishAtom(make('v', letter, NONE, NONE));
             }
         }
 
@@ -813,7 +823,7 @@ public final class FormulaKiln {
                 }
                 place++;
             }
-            push('S', make('S', letter));
+            push('S', make('S', letter, NONE, NONE));
             return true;
         }
 
@@ -827,7 +837,7 @@ public final class FormulaKiln {
             char sign = here();
             switch (sign) {
                 case '!':
-                    operand = join('!', NONE, operand);
+                    operand = make('!', 0, operand, NONE);
                     mayIndex = false;
                     place++;
                     return true;
@@ -885,7 +895,7 @@ public final class FormulaKiln {
 
         private void endAll() {
             if (isDue) {
-                finishAtom(make('?', 0));
+                finishAtom(make('?', 0, NONE, NONE));
             }
             for (int turn = 0; turn < MOST_TURNS && depth > 0; turn++) {
                 reduce(Kinds.RELATION);
@@ -909,13 +919,9 @@ public final class FormulaKiln {
                 if (rank == Kinds.ATOM || rank < least) {
                     return;
                 }
-                combineTop();
+                operand = make(topKind(), 0, topNode(), operand);
+                pop();
             }
-        }
-
-        private void combineTop() {
-            operand = join(topKind(), topNode(), operand);
-            pop();
         }
 
         private void closeTop() {
@@ -925,11 +931,11 @@ public final class FormulaKiln {
             if (kind == '(') {
                 finishAtom(operand);
             } else if (kind == '|') {
-                finishAtom(join('|', NONE, operand));
+                finishAtom(make('|', 0, operand, NONE));
             } else {
                 addPart(node, operand);
                 for (int k = partsOfMade(node); kind == 'S' && k < 3; k++) {
-                    addPart(node, make('?', 0));
+                    addPart(node, make('?', 0, NONE, NONE));
                 }
                 finishAtom(node);
             }
@@ -938,31 +944,32 @@ public final class FormulaKiln {
         private void finishAtom(int node) {
             operand = node;
             isDue = false;
-            mayIndex = true;
-            if (topKind() == '_') {
-                combineTop();
-                mayIndex = false;
+            mayIndex = topKind() != '_';
+            if (!mayIndex) {
+                operand = make('_', 0, topNode(), node);
+                pop();
             }
         }
 
-        private int make(char kind, int value) {
+        /** Makes a node of the parts that are not NONE. */
+        private int make(char kind, int value, int left, int right) {
             if (made >= ROOM) {
                 return ROOM - 1;
             }
-            kinds[made] = kind;
-            values[made] = value;
-            partCounts[made] = 0;
-            made++;
-            return made - 1;
-        }
-
-        /** Makes a node of one part, or of two if there is a left one. */
-        private int join(char kind, int left, int right) {
-            int node = make(kind, 0);
+            int node = made;
+            int count = 0;
             if (left != NONE) {
-                addPart(node, left);
+                partRows[count][node] = left;
+                count++;
             }
-            addPart(node, right);
+            if (right != NONE) {
+                partRows[count][node] = right;
+                count++;
+            }
+            kinds[node] = kind;
+            values[node] = value;
+            partCounts[node] = count;
+            made++;
             return node;
         }
 
