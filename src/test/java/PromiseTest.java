@@ -254,6 +254,12 @@ public final class PromiseTest {
         box("123", 0, 0, 24, 8, 2, 0);
         box("1234", 3, 0, 16, 4, 1, 3);
         box("0", 0, 0, 8, 8, 2, 0);
+        box("9", 0, 0, 8, 8, 2, 0);
+        box("10", 0, 0, 16, 8, 2, 0);
+        box("99", 0, 0, 16, 8, 2, 0);
+        box("100", 0, 0, 24, 8, 2, 0);
+        box("999", 0, 0, 24, 8, 2, 0);
+        box("1000", 0, 0, 32, 8, 2, 0);
         box("0010", 2, 0, 12, 6, 1, 2);
         box("a+b", 0, 0, 32, 8, 2, 0);
         box("a-b", 2, 0, 18, 6, 1, 2);
@@ -309,6 +315,12 @@ public final class PromiseTest {
         box("S(k,0,12345,k)", 0, 0, 38, 19, 13, 0);
         box("S(k,0,a/b,k)", 1, 0, 42, 15, 7, 1);
         box("S(k,a/b,0,k)", 0, 0, 28, 19, 18, 0);
+        box("S(k,a/b/c/d,0,k)", 1, 0, 52, 17, 9, 1);
+        box("S(k,0,a/(b/(c/d)),k)", 1, 0, 56, 15, 15, 1);
+        box("(a/b)^2", 0, 0, 26, 15, 9, 0);
+        box("(a/b)^2", 0, 1, 12, 14, 8, 0);
+        box("(a/b)_2", 0, 0, 26, 15, 12, 0);
+        box("a^(b+c)^2", 0, 0, 38, 13, 2, 0);
     }
 
     private static void lines() {
@@ -354,6 +366,8 @@ public final class PromiseTest {
         Kit.due("right", kiln.move('r'), 5);
         Kit.fails("right from the last part", NO_SUCH, () -> kiln.move('r'));
         Kit.due("left", kiln.move('l'), 2);
+        Kit.due("left to the first part", kiln.move('l'), 1);
+        Kit.due("right", kiln.move('r'), 2);
         Kit.due("down", kiln.move('d'), 3);
         Kit.due("up", kiln.move('u'), 2);
         Kit.due("up", kiln.move('u'), 0);
@@ -364,6 +378,9 @@ public final class PromiseTest {
         Kit.fails("caret at -1", INDEX, () -> kiln.caret(0, -1));
         Kit.due("caret stays where it was", kiln.move('d'), 3);
         Kit.fails("no such way with no caret", ARGUMENT, () -> new FormulaKiln().move('x'));
+        FormulaKiln single = Kit.kiln("-a");
+        single.caret(0, 0);
+        Kit.due("down to a single part", single.move('d'), 1);
     }
 
     private static void putting() {
@@ -446,6 +463,11 @@ public final class PromiseTest {
         gone.caret(0, 2);
         gone.step(0, 'z');
         Kit.fails("the caret's node is gone", NO_SUCH, gone::take);
+        FormulaKiln grown = Kit.kiln("a+0", "b+c");
+        grown.caret(0, 1);
+        grown.step(0, 'z');
+        grown.set(0, 'a', 1);
+        Kit.fails("nowhere, though the number is there again", NO_SUCH, grown::take);
         FormulaKiln same = Kit.kiln("0+a");
         same.caret(0, 0);
         same.step(0, 'z');
@@ -715,7 +737,7 @@ public final class PromiseTest {
         Kit.due("heard", Kit.heard(2, 16, 100, 101, 102, 9, 8, 14), "f(a,b,c)--?!");
         int[][] wrong = {{}, {1}, {1, 100}, {100, 100}, {19}, {100, 19}, {16}, {16, 19}, {16, 100, 19, 19}, {15}, {15, 100},
             {15, 1, 3}, {15, 1000, 14, 14, 14}, {15, 100, 14, 14}, {16, 100, 101, 102, 19}, {16, 100, 101, 102, 103},
-            {1, 16, 100}, {1, 16, 100, 19}, {16, 1, 100, 19}, {10, 19}, {16, 15}, {15, 19}, {16, 100, 15}};
+            {1, 16, 100}, {1, 16, 100, 19}, {1, 19, 100, 101}, {16, 19, 100, 19}, {9, 19, 100}, {16, 1, 100, 19}, {10, 19}, {16, 15}, {15, 19}, {16, 100, 15}};
         for (int[] words : wrong) {
             FormulaKiln kiln = new FormulaKiln();
             Kit.say(kiln, words);
