@@ -1,7 +1,13 @@
+import java.util.ArrayList;
+import java.util.List;
+import java.util.function.Consumer;
+import java.util.function.Supplier;
+
 /** What the tests share: checks that count, and formulas as texts. */
 final class Kit {
     private static int right = 0;
     private static int wrong = 0;
+    private static String about = "";
 
     private Kit() {
     }
@@ -12,7 +18,19 @@ final class Kit {
         } else {
             wrong++;
             System.out.println("  " + what + " answered " + got + ", due is " + want);
+            if (!about.isEmpty()) {
+                System.out.println("    (" + about + ")");
+            }
         }
+    }
+
+    /** What the next checks are about, to be told with one that is wrong. */
+    static void about(String sentence) {
+        about = sentence;
+    }
+
+    static int checks() {
+        return right + wrong;
     }
 
     /** The call must throw just this class, by a throw statement of the engine, and nothing else. */
@@ -125,6 +143,81 @@ final class Kit {
             }
         }
         return text.append(kiln.fault()).append(kiln.checksum()).toString();
+    }
+
+    /** The call throws, and an engine that was called so can't be told from one that was not. */
+    static void changesNothing(String what, Class<? extends RuntimeException> due, Supplier<FormulaKiln> made,
+            Consumer<FormulaKiln> call) {
+        for (int probe = 0; probe < PROBES; probe++) {
+            FormulaKiln called = made.get();
+            fails(what, due, () -> call.accept(called));
+            due(what + " changes nothing that the probe " + probe + " finds", probe(called, probe),
+                    probe(made.get(), probe));
+        }
+    }
+
+    private static final int PROBES = 6;
+
+    /** What is inside can be seen only by calls that change it, so that each probe wants an engine of its own. */
+    private static String probe(FormulaKiln kiln, int probe) {
+        List<String> seen = new ArrayList<>();
+        switch (probe) {
+            case 0:
+                for (char way : "drrlduludrdrduu".toCharArray()) {
+                    seen.add(told(() -> kiln.move(way)));
+                }
+                break;
+            case 1:
+                seen.add(told(kiln::take));
+                break;
+            case 2:
+                for (int k = 0; k < 11; k++) {
+                    seen.add(told(kiln::undo) + kiln.checksum());
+                }
+                break;
+            case 3:
+                seen.add(told(kiln::fault));
+                seen.add(told(kiln::parse));
+                seen.add(told(kiln::put));
+                seen.add(told(kiln::wipe));
+                break;
+            case 4:
+                seen.add(told(kiln::hear));
+                seen.add(told(kiln::hush));
+                break;
+            default:
+                seen.add(told(() -> kiln.type('a')));
+                seen.add(told(() -> kiln.say(14)));
+                break;
+        }
+        return seen + state(kiln);
+    }
+
+    private static String told(Supplier<Object> call) {
+        try {
+            return "" + call.get();
+        } catch (RuntimeException e) {
+            return e.getClass().getName();
+        }
+    }
+
+    /** What checksum() must tell, from what kind() and value() tell; an edit may leave nothing else in a node. */
+    static long sum(FormulaKiln kiln, int formulas) {
+        long sum = 7;
+        for (int formula = 0; formula < formulas; formula++) {
+            for (int node = 0; node < kiln.size(formula); node++) {
+                char kind = kiln.kind(formula, node);
+                boolean isTold = kind == 'n' || kind == 'v' || kind == 'S';
+                sum = (sum * 31 + kind) * 31 + (isTold ? kiln.value(formula, node) : 0);
+            }
+        }
+        return sum;
+    }
+
+    /** The formulas hold nothing but what can be asked, and are as they would be if they were read anew. */
+    static void sound(FormulaKiln kiln, int formulas) {
+        due("checksum()", kiln.checksum(), sum(kiln, formulas));
+        due("isTrue()", kiln.isTrue(), true);
     }
 
     static void end(String name) {
