@@ -2,13 +2,13 @@ import java.util.ArrayList;
 import java.util.List;
 
 /**
- * Every kind in every kind is heard, so that trees are there that nobody typed: what is written is read back to the
- * same tree, and no bracket and no blank is one too many.
+ * Every kind in every kind is heard, so that trees are there that nobody typed. Four deep, what is written is read back
+ * to the same tree; three deep, no bracket and no blank is one too many.
  */
 public final class BracketTest {
     /** A word and how many parts are behind it. */
     private static final int[][] SHAPES = {{1012, 0}, {105, 0}, {14, 0}, {1, 2}, {2, 2}, {3, 2}, {4, 2}, {5, 2}, {6, 2}, {7, 2},
-        {8, 1}, {9, 1}, {10, 1}, {11, 2}, {16, 1}, {17, 2}, {18, 3}, {15, 3}};
+        {8, 1}, {9, 1}, {10, 1}, {11, 2}, {12, 2}, {13, 2}, {16, 1}, {17, 2}, {18, 3}, {15, 3}};
     /** What stands at the other sides: a letter, a number, the letter 'f', '|' with a letter. */
     private static final int[][] FILLINGS = {{123}, {1003}, {105}, {10, 123}};
     private static final int SUM = 15;
